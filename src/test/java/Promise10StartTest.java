@@ -31,25 +31,25 @@ final class Promise10StartTest {
     }
 
     private static void loadsWhatIsKept() {
-        StartSleep x = Modes.in(Modes.RUNNING);
-        x.write(2, 0, (byte) 1);
-        x.write(2, 1, (byte) 2);
-        x.step(105);
-        x.wake(1, true);
-        x.write(2, 0, (byte) 77);
-        x.write(6, 0, (byte) 78);
-        x.cut(106);
-        Due.is("start()", x.start(), 1);
-        Due.is("block(2)", x.block(2), 0);
-        // Another octet of each is written, so that the whole working rows are saved and can be seen.
-        x.write(2, 15, (byte) 3);
-        x.write(6, 15, (byte) 4);
-        Due.is("step(1000)", x.step(1000), 3);
-        Due.is("kept(2, 0)", Due.kept(x, 2, 0), 1);
-        Due.is("kept(2, 1)", Due.kept(x, 2, 1), 2);
-        Due.is("kept(2, 15)", Due.kept(x, 2, 15), 3);
-        Due.is("kept(6, 0)", Due.kept(x, 6, 0), 0);
-        Due.is("kept(6, 15)", Due.kept(x, 6, 15), 4);
+        for (int n = 0; n < 8; n++) {
+            StartSleep x = Modes.in(Modes.RUNNING);
+            x.write(n, 0, (byte) 1);
+            x.write(n, 1, (byte) 2);
+            x.step(105);
+            x.wake(1, true);
+            x.write(n, 0, (byte) 77);
+            x.write(n, 2, (byte) 78);
+            x.cut(106);
+            Due.is("start()", x.start(), 1);
+            Due.is("block(" + n + ")", x.block(n), 0);
+            // Another octet is written, so that the whole working row is saved and can be seen.
+            x.write(n, 15, (byte) 3);
+            Due.is("step(1000)", x.step(1000), 3);
+            Due.is("kept(" + n + ", 0)", Due.kept(x, n, 0), 1);
+            Due.is("kept(" + n + ", 1)", Due.kept(x, n, 1), 2);
+            Due.is("kept(" + n + ", 2)", Due.kept(x, n, 2), 0);
+            Due.is("kept(" + n + ", 15)", Due.kept(x, n, 15), 3);
+        }
     }
 
     private static void idleTimeBeginsWithIt() {
